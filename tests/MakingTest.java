@@ -15,6 +15,7 @@ public final class MakingTest {
         readOnly();
         onlyReadingIsPassedOn();
         aNewWindowHasNoMark();
+        aNewStoreInPlaceOfASlice();
         targetsAreChecked();
         checks.finish();
     }
@@ -255,6 +256,21 @@ public final class MakingTest {
         house.mark(1);
         house.readOnly(0, 1);
         checks.refused("back of a reader of one without a mark", house, Checks.STATE, () -> house.back(1));
+    }
+
+    private static void aNewStoreInPlaceOfASlice() {
+        Windowhouse house = Checks.filled('i', 4);
+        house.make(0, 2);
+        house.rowPut(0, 0, 7);
+        house.sliceAt(0, 2, 2, 1);
+        house.sliceAt(0, 2, 2, 2);
+        house.wrap(1, 0);
+        checks.due("wrap in place of a slice", Checks.valuesOf(house, 1), "7 0");
+        house.allocate(2, 'i', 2);
+        checks.due("allocate in place of a slice", Checks.valuesOf(house, 2), "0 0");
+        house.sliceAt(0, 3, 1, 1);
+        house.duplicate(0, 1);
+        checks.due("duplicate in place of a slice", Checks.valuesOf(house, 1), "10 11 12 13");
     }
 
     private static void targetsAreChecked() {
