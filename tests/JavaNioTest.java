@@ -13,8 +13,9 @@ import java.util.NoSuchElementException;
  * exception and each state are compared.
  */
 public final class JavaNioTest {
-    private static final int HOUSES = 300;
-    private static final int CALLS = 512;
+    private static final int HOUSES = 600;
+    // With a sum over all behind each call, and eight calls in the end, a house is called no more than 512 times.
+    private static final int CALLS = 252;
     private static final int METHODS = 39;
 
     private static long seed = 20261119L;
@@ -44,12 +45,16 @@ public final class JavaNioTest {
             long[] v = {value(), value()};
             String got = answerOf(() -> callOfHouse(house, a, v));
             String want = answerOf(() -> nio.call(a, v));
-            if (!got.equals(want) || house.checksum() != nio.checksum() || !sameReaders(house, nio)) {
+            if (!got.equals(want) || house.checksum() != nio.checksum()) {
                 wrong++;
                 System.out.println("house " + number + ", call " + call + ", method " + a[0] + " of " + a[1] + " "
                         + a[2] + " " + a[3] + " " + a[4] + ": answered " + got + ", due is " + want);
                 return;
             }
+        }
+        if (!sameReaders(house, nio)) {
+            wrong++;
+            System.out.println("house " + number + ": other windows only read");
         }
     }
 
