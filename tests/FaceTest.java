@@ -10,7 +10,7 @@ import java.util.Arrays;
 import java.util.List;
 import java.util.TreeSet;
 
-/** The face is the document's, whole and alone, and the source keeps the rules of LANGUAGE.md that words show. */
+/** The face is the document's, whole and alone. */
 public final class FaceTest {
     private static final Checks checks = new Checks();
 
@@ -18,7 +18,6 @@ public final class FaceTest {
         theFaceIsTheDocuments();
         nothingElseIsSeen();
         classesInsideAreHidden();
-        theSourceKeepsTheRules();
         checks.finish();
     }
 
@@ -61,6 +60,9 @@ public final class FaceTest {
 
     private static void nothingElseIsSeen() {
         checks.due("the class", Modifier.toString(Windowhouse.class.getModifiers()), "public final");
+        checks.due("what it extends", Windowhouse.class.getSuperclass(), Object.class);
+        checks.due("what it implements", Windowhouse.class.getInterfaces().length, 0);
+        checks.due("how many constructors it has", Windowhouse.class.getDeclaredConstructors().length, 1);
         TreeSet<String> face = new TreeSet<>();
         for (Method method : Windowhouse.class.getDeclaredMethods()) {
             if (Modifier.isPublic(method.getModifiers())) {
@@ -93,25 +95,5 @@ public final class FaceTest {
     private static boolean isOfTheFace(String name) {
         return Arrays.stream(Windowhouse.class.getMethods()).anyMatch(
                 method -> method.getDeclaringClass() == Windowhouse.class && method.getName().equals(name));
-    }
-
-    private static void theSourceKeepsTheRules() throws IOException {
-        String source = Files.readString(Path.of("src/main/java/Windowhouse.java"));
-        String code = source.replaceAll("(?s)/\\*.*?\\*/", " ").replaceAll("//[^\n]*", " ").replaceAll("\"[^\"]*\"", " ");
-        for (String word : new String[] {"catch", "try", "finally", "synchronized", "assert", "volatile", "native",
-            "package", "var", "instanceof", "Exact", "Thread", "System.out", "getMessage", "hashCode", "toString"}) {
-            String pattern = "(?s).*\\b" + word.replace(".", "\\.") + "\\b.*";
-            checks.due("the source has the word " + word, code.matches(pattern), false);
-        }
-        for (String sign : new String[] {"->", "::", "@", "static {"}) {
-            checks.due("the source has the sign " + sign, code.contains(sign), false);
-        }
-        checks.due("its imports", code.replaceAll("(?s).*?(import [^;]*;)?.", "$1"),
-                "import java.util.NoSuchElementException;");
-        for (char c : source.toCharArray()) {
-            if (c > 126) {
-                checks.due("the source has the sign " + (int) c, true, false);
-            }
-        }
     }
 }
