@@ -68,7 +68,7 @@ public final class RulesTest {
     private static void noForbiddenWords(String source) {
         String code = codeOf(source);
         for (String word : new String[] {"catch", "try", "finally", "synchronized", "assert", "volatile", "native",
-            "package", "var", "instanceof", "Exact", "Thread", "System.out", "getMessage", "hashCode", "toString"}) {
+            "package", "var", "instanceof", "Thread", "System.out", "getMessage", "hashCode", "toString"}) {
             checks.due("the source has the word " + word,
                     Pattern.compile("\\b" + Pattern.quote(word) + "\\b").matcher(code).find(), false);
         }
